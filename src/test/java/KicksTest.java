@@ -4,6 +4,7 @@ public final class KicksTest {
         height();
         heightWithKept();
         clauses();
+        kindsInClauses();
         truths();
         falls();
         kick();
@@ -66,6 +67,18 @@ public final class KicksTest {
         Check.due("only the newest yard", x.height(1, 0), 2);
         Check.yardOf(x, "duck 99 a<10;duck 99 b<5;duck 99 k<7;duck 99 g<4;duck 99 n<21;duck 99 h<24");
         Check.due("ducks together", x.height(0, 0), 1 - 594);
+    }
+
+    private static void kindsInClauses() {
+        for (int kind = 0; kind < 7; kind++) {
+            for (int k = 0; k < 7; k++) {
+                OverFence x = new OverFence();
+                x.boy(kind, 4);
+                int without = x.height(0, 3);
+                Check.yardOf(x, "lift 40 k=" + k);
+                Check.due("kind " + kind + ", lift by k=" + k, x.height(0, 3), without + (k == kind ? 40 : 0));
+            }
+        }
     }
 
     private static void truth(String test, boolean due) {

@@ -11,6 +11,8 @@ public final class OddsTest {
         round();
         roundWithoutBallsOrBoys();
         roundByShyBoys();
+        roundWithNetAndYard();
+        roundTillNoBallIsLeft();
         rule();
         Check.end();
     }
@@ -87,6 +89,15 @@ public final class OddsTest {
         x.set(1, 2);
         Check.due("goal, with a net", x.turn(0), 2);
         Check.due("how many, with a net", x.turn(1), 2 + 5);
+        for (int goal = 0; goal < 4; goal++) {
+            OverFence y = new OverFence();
+            y.boy(0, 3);
+            y.set(0, (goal + 1) % 4);
+            Check.yardOf(y, "duck 2 g=" + goal + ";duck 1 g>" + goal);
+            Check.due("the best goal", y.turn(0), goal);
+            Check.due("by the best goal", y.turn(1), 5);
+            Check.due("the goal is as it was", y.told(0), (goal + 1) % 4);
+        }
         String before = Check.seen(x);
         Check.refused(x, before, "what -1", x.turn(-1), -1);
         Check.refused(x, before, "what 2", x.turn(2), -1);
@@ -133,6 +144,15 @@ public final class OddsTest {
         Check.yardOf(x, "lift 50 a=2&b>0;duck 20 a=9");
         Check.due("aim with clauses", x.bar(0), 2);
         Check.due("how many with clauses", x.bar(1), 2);
+        for (int aim = 0; aim < 10; aim++) {
+            OverFence y = new OverFence();
+            y.boy(2, 0);
+            y.boy(2, 0);
+            y.boy(2, 0);
+            Check.yardOf(y, "lift 50 a=" + aim + "&b<2;lift 50 a>" + aim + "&b=2");
+            Check.due("the aim", y.bar(0), aim);
+            Check.due("by the aim", y.bar(1), 2);
+        }
         String before = Check.seen(x);
         Check.refused(x, before, "what -1", x.bar(-1), -1);
         Check.refused(x, before, "what 2", x.bar(2), -1);
@@ -215,6 +235,40 @@ public final class OddsTest {
         x.set(2, 0);
         round(x, 2, 3, 19, 20);
         round(x, 2, 1, 19, 20);
+    }
+
+    private static void roundWithNetAndYard() {
+        OverFence x = new OverFence();
+        x.boy(0, 1);
+        x.boy(0, 0);
+        x.boy(2, 9);
+        x.set(1, 2);
+        // Above 7: by 7 .. 9; by 8 and 9; by 7 .. 9, which rise to 8, 8 and 9.
+        round(x, 1, 3, 3, 10);
+        round(x, 2, 3, 1, 2);
+        round(x, 3, 3, 4, 5);
+        Check.yardOf(x, "lift 20 b=0&a=0;duck 20 b=0&a>7;lift 30 b=1&a<9;duck 1 b=2;lift 50 n=1|g=3|h=9");
+        // By 0 and 7; by all; by 9 as 8 alone.
+        round(x, 1, 3, 1, 5);
+        round(x, 2, 3, 6, 5);
+        round(x, 3, 3, 13, 10);
+        x.set(4, 9);
+        round(x, 1, 3, 1, 1);
+    }
+
+    private static void roundTillNoBallIsLeft() {
+        OverFence x = new OverFence();
+        x.boy(0, 9);
+        x.set(2, 0);
+        for (int bed = 0; bed < 10; bed++) x.bed(bed, 3);
+        round(x, 12, 0, 0, 1);
+        round(x, 12, 2, 3, 1);
+        round(x, 12, 3, 3, 1);
+        for (int bed = 0; bed < 5; bed++) x.bed(bed, 0);
+        round(x, 12, 0, 0, 1);
+        round(x, 12, 1, 3, 2);
+        round(x, 12, 2, 3, 2);
+        round(x, 12, 3, 3, 1);
     }
 
     private static void rule() {

@@ -104,6 +104,12 @@ public final class PaysTest {
         Check.due("the last pane, how many", x.cover(1), 3);
         x.bed(5, 2);
         Check.due("of several the least", x.cover(0), 4);
+        x.bed(0, 2);
+        x.bed(9, 2);
+        // On 0: boys 1, 2 and 3 by 5, 4 and 2; on 9: all four.
+        Check.due("the last bed", x.cover(0), 9);
+        x.bed(9, 0);
+        Check.due("the first bed", x.cover(0), 0);
         String before = Check.seen(x);
         Check.refused(x, before, "what -1", x.cover(-1), -1);
         Check.refused(x, before, "what 2", x.cover(2), -1);

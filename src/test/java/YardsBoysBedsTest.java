@@ -93,6 +93,12 @@ public final class YardsBoysBedsTest {
     }
 
     private static void of() {
+        for (int kind = 0; kind < 7; kind++) {
+            OverFence x = new OverFence();
+            x.boy(kind, 9 - kind);
+            Check.due("his kind", x.of(0, 0), kind);
+            Check.due("his v", x.of(0, 1), 9 - kind);
+        }
         OverFence x = new OverFence();
         for (int kind = 2; kind < 7; kind++) x.boy(kind, kind + 2);
         for (int b = 0; b < 5; b++) {
