@@ -89,6 +89,10 @@ public final class OddsTest {
         x.set(1, 2);
         Check.due("goal, with a net", x.turn(0), 2);
         Check.due("how many, with a net", x.turn(1), 2 + 5);
+        OverFence beyond = new OverFence();
+        beyond.boy(0, 3);
+        Check.yardOf(beyond, "duck 50 g>3");
+        Check.due("there is no fifth side", beyond.turn(1), 7);
         for (int goal = 0; goal < 4; goal++) {
             OverFence y = new OverFence();
             y.boy(0, 3);
@@ -254,6 +258,13 @@ public final class OddsTest {
         round(x, 3, 3, 13, 10);
         x.set(4, 9);
         round(x, 1, 3, 1, 1);
+        OverFence five = new OverFence();
+        for (int v = 0; v < 5; v++) five.boy(0, v);
+        five.set(2, 9);
+        Check.yardOf(five, "lift 50 b=4&a=9;duck 50 b=4&a=8;duck 50 b=0");
+        // None; 5, 6, 7 of 10; 7 of 10 (2 .. 7 and 9, 8 not); none again.
+        round(five, 5, 3, 5, 2);
+        round(five, 6, 3, 5, 2);
     }
 
     private static void roundTillNoBallIsLeft() {
