@@ -61,7 +61,6 @@ public final class OverFence {
         if (now.boyCount >= BOYS_MOST) return FULL;
         int number = now.boyCount;
         now.boys[number] = newBoy(kind, number, v);
-        now.panes[number] = 0;
         now.boyCount++;
         return number;
     }
@@ -214,7 +213,8 @@ public final class OverFence {
         if (bed < 0 || bed >= BEDS) return NONE;
         int bits = 0;
         for (int i = 0; i < now.boyCount; i++) {
-            if (now.kicksOnto(now.boys[i], bed) > 0) bits |= 1 << i;
+            Kick b = now.boyAt(i);
+            if (b != null && now.kicksOnto(b, bed) > 0) bits |= 1 << i;
         }
         return bits;
     }
@@ -554,6 +554,7 @@ public final class OverFence {
     private static final class Yard {
         // A test's step is three times its letter's place and its sign's place; these come behind.
         static final int NOT = 18, AND = 19, OR = 20, LIFT = 21, DUCK = 22;
+        static final byte[] NO_TEXT = {};
         static final String LETTERS = "bkagnh";
         static final String SIGNS = "<=>";
         static final int CLAUSES_MOST = 10, OPEN_MOST = 5, WALL_WITHOUT = 5, SUPPER_WITHOUT = 18;
@@ -565,7 +566,7 @@ public final class OverFence {
         int wall = WALL_WITHOUT;
         int supper = SUPPER_WITHOUT;
 
-        private byte[] text;
+        private byte[] text = NO_TEXT;
         private int size;
         private int at;
         private int fault;
@@ -613,7 +614,7 @@ public final class OverFence {
         /** Becomes the yard that stands on the tape: the place of its fault, or -1. */
         int read(byte[] tape, int tapeSize) {
             text = tape;
-            size = tapeSize;
+            size = Math.min(tapeSize, tape.length);
             at = 0;
             fault = -1;
             stepCount = 0;
@@ -850,8 +851,9 @@ public final class OverFence {
         int oversOfAll(int goal, int net) {
             int overs = 0;
             for (int i = 0; i < boyCount; i++) {
-                for (int aim = 0; aim < AIMS; aim++) {
-                    if (heightOf(boys[i], aim, goal, net) > yard.wall + net) overs++;
+                Kick b = boyAt(i);
+                for (int aim = 0; b != null && aim < AIMS; aim++) {
+                    if (heightOf(b, aim, goal, net) > yard.wall + net) overs++;
                 }
             }
             return overs;
@@ -860,7 +862,8 @@ public final class OverFence {
         int oversByAim(int aim) {
             int overs = 0;
             for (int i = 0; i < boyCount; i++) {
-                if (goesOver(boys[i], aim)) overs++;
+                Kick b = boyAt(i);
+                if (b != null && goesOver(b, aim)) overs++;
             }
             return overs;
         }
@@ -875,7 +878,10 @@ public final class OverFence {
 
         int kicksOfAllOnto(int bed) {
             int kicks = 0;
-            for (int i = 0; i < boyCount; i++) kicks += kicksOnto(boys[i], bed);
+            for (int i = 0; i < boyCount; i++) {
+                Kick b = boyAt(i);
+                if (b != null) kicks += kicksOnto(b, bed);
+            }
             return kicks;
         }
     }
@@ -913,7 +919,9 @@ public final class OverFence {
             if (scene.boyCount <= 0) return;
             findLifts(scene);
             for (int k = 0; k < n && k < KICKS_MOST; k++) {
-                spread(scene, scene.boys[k % scene.boyCount], back);
+                Kick b = scene.boyAt(k % scene.boyCount);
+                if (b == null) return;
+                spread(scene, b, back);
                 ways *= AIMS;
                 kicksDone++;
             }
@@ -922,9 +930,9 @@ public final class OverFence {
         private void findLifts(Scene scene) {
             int[] numbers = scene.numbers;
             for (int i = 0; i < scene.boyCount; i++) {
-                for (int aim = 0; aim < AIMS; aim++) {
-                    lifts[i * AIMS + aim] = scene.yard.liftOf(scene.boys[i], aim,
-                            numbers[GOAL], numbers[NET], numbers[HOUR]);
+                Kick b = scene.boyAt(i);
+                for (int aim = 0; b != null && aim < AIMS; aim++) {
+                    lifts[i * AIMS + aim] = scene.yard.liftOf(b, aim, numbers[GOAL], numbers[NET], numbers[HOUR]);
                 }
             }
         }
