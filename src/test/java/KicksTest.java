@@ -110,6 +110,9 @@ public final class KicksTest {
         truth("a=5&b=1&k=3", true);
         truth("a=5&b=1&k=4", false);
         truth("a=5|b=0&k=4", true);
+        truth("a=5|b=1&k=4", true);
+        truth("a=5|b=1&k=3", true);
+        truth("a=4|b=1&k=4", false);
         truth("(a=5|b=0)&k=4", false);
         truth("k=4&b=0|a=5", true);
         truth("k=4&(b=0|a=5)", false);
